@@ -245,7 +245,7 @@ public final class MembersTest {
                 i == 2 ? GossipGates.ALIVE : GossipGates.DEAD);
             checks.equal("the ones that are down look at none", x.status(i, 2), GossipGates.ALIVE);
         }
-        // Called by 3 in the tick 8, of all others: (40 + 9) mod 7 is 0; by 2, (40 + 6) mod 7 is 4.
+        // In the tick 8, of all others: (40 + 6) mod 7 is 4, and that is the member 5.
         x.comeUp(5);
         checks.equal("partner", x.partner(2), 5);
         x.tick(1);
@@ -281,6 +281,12 @@ public final class MembersTest {
         }
         some.tick(3);
         checks.equal("of all others, (120 + 3) mod 7 is 4", some.partner(1), 5);
+        // 1 calls 0 in the tick 5 and 0 calls 1 in the tick 7; the others are never heard of.
+        GossipGates two = Checks.lonely(0);
+        two.comeUp(1);
+        two.tick(8);
+        checks.equal("the only one that it does not hold dead", two.partner(0), 1);
+        checks.equal("and the other way", two.partner(1), 0);
     }
 
     private static int partnerByStatus(GossipGates x, int member) {
@@ -312,6 +318,18 @@ public final class MembersTest {
         parted.setGroup(7, 3);
         parted.tick(10);
         checks.equal("greater versions win over lower numbers", parted.freshest(7), 7);
+        for (int reach = 0; reach < 8; reach++) {
+            checks.equal("by the versions " + reach, parted.freshest(reach),
+                freshestByVersion(parted, reach));
+        }
+    }
+
+    private static int freshestByVersion(GossipGates x, int reach) {
+        int best = 0;
+        for (int member = 1; member < 8; member++) {
+            best = x.version(member, reach) > x.version(best, reach) ? member : best;
+        }
+        return best;
     }
 
     private static void promise27Agree() {
@@ -324,6 +342,15 @@ public final class MembersTest {
                 due += heard.indexOf('0' + i) >= 0 ? 1 : 0;
             }
             checks.equal("agree " + i, x.agree(i), due);
+        }
+        GossipGates wet = Checks.shutRiver();
+        for (int i = 0; i < 8; i++) {
+            wet.rain(i, 10 * i + 10);
+        }
+        wet.tick(1);
+        int[] hearers = {5, 5, 5, 3, 2, 4, 5, 2};
+        for (int i = 0; i < 8; i++) {
+            checks.equal("agree, levels unlike, " + i, wet.agree(i), hearers[i]);
         }
         x.fall(3);
         checks.equal("up alone", x.agree(0), 4);
