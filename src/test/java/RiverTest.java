@@ -53,7 +53,7 @@ public final class RiverTest {
     }
 
     private static void promise2Shape() {
-        GossipGates x = Checks.shutRiver();
+        GossipGates x = Scenes.shutRiver();
         x.rain(3, 70);
         x.tick(1);
         checks.equal("level by the area at first", x.level(3), 7);
@@ -73,13 +73,13 @@ public final class RiverTest {
         checks.equal("smallest holds 1", x.volume(0), 1);
         checks.equal("greatest holds all", x.volume(1), 10001);
         checks.equal("narrow and deep", x.volume(7), 1000);
-        GossipGates y = Checks.shutRiver();
+        GossipGates y = Scenes.shutRiver();
         y.rain(5, 1001);
         checks.equal("1000 fit at first", y.tick(1), 1);
     }
 
     private static void promise2ShapeWrong() {
-        GossipGates x = Checks.shutRiver();
+        GossipGates x = Scenes.shutRiver();
         for (int wrong : Checks.NOT_A_NUMBER) {
             checks.argument("shape reach " + wrong, () -> x.shape(wrong, 1, 1));
         }
@@ -95,7 +95,7 @@ public final class RiverTest {
     }
 
     private static void promise3SetGauge() {
-        GossipGates x = Checks.shutRiver();
+        GossipGates x = Scenes.shutRiver();
         x.rain(4, 900);
         x.byHand(4, 10);
         x.tick(1);
@@ -117,7 +117,7 @@ public final class RiverTest {
     }
 
     private static void promise4SetSource() {
-        GossipGates x = Checks.shutRiver();
+        GossipGates x = Scenes.shutRiver();
         checks.equal("no source at first", x.setSource(100), 0);
         checks.equal("not ahead of the tick", x.volume(0), 0);
         x.tick(3);
@@ -134,7 +134,7 @@ public final class RiverTest {
     }
 
     private static void promise5Rain() {
-        GossipGates x = Checks.shutRiver();
+        GossipGates x = Scenes.shutRiver();
         x.shape(0, 100, 1000);
         checks.equal("rain", x.rain(0, 1), 1);
         checks.equal("in all", x.rain(0, 10000), 10001);
@@ -159,7 +159,7 @@ public final class RiverTest {
     }
 
     private static void promise6Volume() {
-        GossipGates x = Checks.shutRiver();
+        GossipGates x = Scenes.shutRiver();
         for (int i = 0; i < 8; i++) {
             x.setGauge(i, 50);
             x.byHand(i, 10);
@@ -180,7 +180,7 @@ public final class RiverTest {
     private static void promise7VolumeByBalance() {
         GossipGates x = new GossipGates();
         x.setSource(77);
-        for (int i = 0; i < 60; i++) {
+        for (int i = 0; i < 25; i++) {
             x.rain(i % 8, 100 + 97 * i);
             x.shape((i * 3) % 8, 1 + i, 10 + i);
             x.tick(1);
@@ -189,7 +189,7 @@ public final class RiverTest {
                     x.volumeByBalance(reach), x.volume(reach));
             }
         }
-        GossipGates y = Checks.shutRiver();
+        GossipGates y = Scenes.shutRiver();
         y.setSource(10);
         y.rain(0, 1000);
         y.byHand(0, 1);
@@ -202,7 +202,7 @@ public final class RiverTest {
     }
 
     private static void promise8Level() {
-        GossipGates x = Checks.shutRiver();
+        GossipGates x = Scenes.shutRiver();
         x.shape(2, 7, 100);
         x.rain(2, 20);
         x.tick(1);
@@ -220,7 +220,7 @@ public final class RiverTest {
     }
 
     private static void promise9Flowed() {
-        GossipGates x = Checks.shutRiver();
+        GossipGates x = Scenes.shutRiver();
         x.rain(6, 32);
         x.byHand(6, 3);
         x.byHand(7, 2);
@@ -243,7 +243,7 @@ public final class RiverTest {
     }
 
     private static void promise10Spilled() {
-        GossipGates x = Checks.shutRiver();
+        GossipGates x = Scenes.shutRiver();
         for (int i = 0; i < 8; i++) {
             x.shape(i, 1, 1);
         }

@@ -11,7 +11,7 @@ public final class TicksTest {
     }
 
     private static void promise31Tick() {
-        GossipGates x = Checks.shutRiver();
+        GossipGates x = Scenes.shutRiver();
         x.setSource(1000);
         checks.equal("the first fills it", x.tick(1), 0);
         checks.equal("from all reaches, in all ticks", x.tick(3), 1000 + 2000 + 3000);
@@ -32,7 +32,7 @@ public final class TicksTest {
     }
 
     private static void promise31Wrong() {
-        GossipGates x = Checks.shutRiver();
+        GossipGates x = Scenes.shutRiver();
         x.rain(0, 7);
         for (int wrong : new int[] {0, -1, 101, 5001, Integer.MIN_VALUE, Integer.MAX_VALUE}) {
             checks.argument("tick " + wrong, () -> x.tick(wrong));
@@ -42,7 +42,7 @@ public final class TicksTest {
     }
 
     private static void promise31End() {
-        GossipGates x = Checks.shutRiver();
+        GossipGates x = Scenes.shutRiver();
         x.setSource(1000);
         for (int i = 0; i < 49; i++) {
             x.tick(100);
